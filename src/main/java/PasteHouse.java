@@ -786,7 +786,7 @@ public final class PasteHouse {
         private final long[] names = new long[MAX_CAMPAIGNS];
         private final long[] rivals = new long[MAX_CLAUSES];
         private final int[] rivalPlaces = new int[MAX_CLAUSES];
-        // Operators whose right side is not read yet: at most five a level of brackets.
+        // Operators whose right side is not read yet: a rank has one at most, so five a level of brackets.
         private final int[] waiting = new int[5 * (MAX_DEPTH + 1)];
         private int waitingSize;
         private int depth;
@@ -1004,8 +1004,19 @@ public final class PasteHouse {
                     blameIf(number > 100, WRONG);
                     contracts.setAmount(number);
                     break;
+                case AT_MARK:
+                    blameIf(number > 7, WRONG);
+                    contracts.addCode(Kind.NEAR, number);
+                    break;
+                case AT_LITERAL:
+                case AT_UNIT:
+                    noteUnit(kind, number);
+                    break;
+                case BEHIND_MARK:
+                case BEHIND_UNIT:
+                    noteBehind(kind);
+                    break;
                 default:
-                    noteInCondition(kind, number);
                     break;
             }
         }
@@ -1060,25 +1071,16 @@ public final class PasteHouse {
         private void settleRivals() {
             for (int clause = 0; clause < contracts.clauses() && clause < MAX_CLAUSES; clause++) {
                 if (contracts.kindOf(clause) == Kind.BESIDE) {
+                    int owner = contracts.ownerOf(clause);
                     int rival = campaignOf(rivals[clause]);
                     if (rival == NONE) {
                         blame(UNKNOWN_NAME, rivalPlaces[clause]);
-                    } else if (rival == contracts.ownerOf(clause)) {
+                    } else if (rival == owner) {
                         blame(WRONG, rivalPlaces[clause]);
+                    } else {
+                        contracts.setApart(owner, rival);
                     }
-                    contracts.setApart(contracts.ownerOf(clause), rival);
                 }
-            }
-        }
-
-        private void noteInCondition(int kind, int number) {
-            if (state == AT_MARK) {
-                blameIf(number > 7, WRONG);
-                contracts.addCode(Kind.NEAR, number);
-            } else if (state == AT_LITERAL || state == AT_UNIT) {
-                noteUnit(kind, number);
-            } else if (state == BEHIND_MARK || state == BEHIND_UNIT) {
-                noteBehind(kind);
             }
         }
 
@@ -1128,7 +1130,7 @@ public final class PasteHouse {
 
     /** Weighs conditions of the board that is regarded. */
     private static final class Judge {
-        // At most five values a level of brackets wait for their operators.
+        // As many values as there are operators waiting, and one more, have room by the same reckoning.
         private final int[] stack = new int[5 * (MAX_DEPTH + 1)];
         private int district;
         private int quality;

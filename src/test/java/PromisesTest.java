@@ -154,13 +154,24 @@ public final class PromisesTest {
         due("a fault changes nothing: count(4)", house.count(4), 1);
         due("a fault changes nothing: given(0, 3, 0)", house.given(0, 3, 0), 0);
         due("a fault changes nothing: give(4, 0)", house.give(4, 0), 5);
+        due("give(0, 0)", house.give(0, 0), 5);
         due("read() of nothing", house.read(), 0);
         due("in place of the one ahead: count(2)", house.count(2), 0);
         due("in place of the one ahead: count(3)", house.count(3), 0);
         due("nothing is given: count(4)", house.count(4), 0);
         due("nothing is given: given(0, 3, 0)", house.given(0, 3, 0), NONE);
+        due("nothing is given: given(0, 0, 2)", house.given(0, 0, 2), NONE);
         due("boards stay: count(0)", house.count(0), 1);
         due("give(3, 0)", house.give(3, 0), 0);
+        feed(house, "campaign a from 0 until 1;end campaign b from 0 until 1;beside a;end");
+        due("read() of two campaigns", house.read(), 0);
+        feed(house, "campaign c from 0 until 1;beside b;end");
+        due("a name of the text ahead is none of this one", house.read(), 4);
+        String two = "campaign a from 0 until 1;want 1 in 0 worth 1;end campaign b from 0 until 1;want 1 in 0 worth 1;end";
+        house.board(0, 1, 1, 0, true);
+        feed(house, two);
+        due("read() of two that may hang beside one another", house.read(), 0);
+        due("give(0, 0): what the text ahead said is gone", house.give(0, 0), 2);
     }
 
     private static void promise4Tokens() {
@@ -273,6 +284,10 @@ public final class PromisesTest {
 
     private static void promise4OtherFaults() {
         dueFault("campaign a from 0 until 1;end campaign a from 0 until 1;end", 3, 39);
+        dueFault("campaign ab from 0 until 1;end campaign ba from 0 until 1;end campaign aab from 0 until 1;end "
+                + "campaign aba from 0 until 1;end campaign b from 0 until 1;end campaign zzzzzzzz from 0 until 1;end", 0, NONE);
+        dueFault("campaign zzzzzzzz from 0 until 1;end campaign zzzzzzzz from 0 until 1;end", 3, 46);
+        dueFault("campaign ab from 0 until 1;beside ba;end", 4, 34);
         dueFault("campaign a from 0 until 1;want 1 in 2 worth 1;want 1 in 02 worth 1;end", 3, 56);
         dueFault("campaign a from 0 until 1;want 1 in 2 worth 1;end campaign b from 0 until 1;want 1 in 2 worth 1;end",
                 0, NONE);
@@ -465,6 +480,7 @@ public final class PromisesTest {
         due("none is in force", house.give(4, 0), 0);
         due("NONE goes ahead of FULL", house.give(1, 1), NONE);
         due("nothing is given in it", house.mend(1, 0), NONE);
+        due("four are in force", house.mend(3, 0), 0);
         due("count(4)", house.count(4), 3);
     }
 
@@ -499,6 +515,16 @@ public final class PromisesTest {
         due("a new board", house.board(0, 1, 0, 0, false), 4);
         due("mend(7, 2): it is given to none", house.mend(7, 2), 0);
         dueGiven(house, 7, NONE, 0, 1, 2, NONE);
+        PasteHouse worth = houseWith("campaign a from 0 until 1;want 1 in 0 worth 2;end campaign b from 0 until 1;"
+                + "want 1 in 0 worth 1;bar quality==1;end campaign c from 0 until 1;want 1 in 0 worth 0;end");
+        worth.board(0, 2, 0, 0, false);
+        worth.board(0, 2, 0, 0, false);
+        worth.board(0, 1, 0, 0, false);
+        due("give(0, 0)", worth.give(0, 0), 3);
+        dueGiven(worth, 0, 0, 1, 3);
+        due("board 1 is lost", worth.fact(4, 1, 0, 0), 0);
+        due("mend(0, 1): the most worth goes ahead of few moves", worth.mend(0, 1), 2);
+        dueGiven(worth, 0, 1, NONE, 0);
     }
 
     private static void promise11Given() {
@@ -542,19 +568,19 @@ public final class PromisesTest {
     private static void promise12And13Bars() {
         PasteHouse house = houseWith("campaign a from 0 until 1;want 1 in 0 worth 1;bar near 0 and near 7;"
                 + "bar audience==500;end campaign b from 3 until 4;bar 500<=audience;bar district==0;end "
-                + "campaign c from 0 until 1;end");
+                + "campaign c from 0 until 1;end campaign d from 0 until 1;bar 1==1;end");
         house.board(0, 5, 500, 129, false);
         house.board(1, 5, 500, 128, false);
         house.board(2, 5, 499, 1, false);
-        int[][] bars = {{1, 3, NONE}, {2, 3, NONE}, {NONE, NONE, NONE}};
+        int[][] bars = {{1, 3, NONE, 5}, {2, 3, NONE, 5}, {NONE, NONE, NONE, 5}};
         for (int board = 0; board < 3; board++) {
-            for (int campaign = 0; campaign < 3; campaign++) {
+            for (int campaign = 0; campaign < 4; campaign++) {
                 String asks = "(" + board + ", " + campaign + ")";
                 due("bar" + asks, house.bar(board, campaign), bars[board][campaign]);
                 due("may" + asks, house.may(board, campaign), bars[board][campaign] == NONE ? 1 : 0);
             }
         }
-        int[][] others = {{-1, 0}, {3, 0}, {0, -1}, {0, 3}};
+        int[][] others = {{-1, 3}, {3, 3}, {0, -1}, {0, 4}};
         for (int[] other : others) {
             due("may: no such ones", house.may(other[0], other[1]), NONE);
             due("bar: no such ones", house.bar(other[0], other[1]), NONE);
@@ -585,6 +611,16 @@ public final class PromisesTest {
         dueHolds("(1+2)*3==9", true);
         dueHolds("10-3-2==5", true);
         dueHolds("10-(3-2)==9", true);
+        dueHolds("10-(3-2)==5", false);
+        dueHolds("2*(1+2)==6", true);
+        dueHolds("2*(1+2)==4", false);
+        dueHolds("(2)*(1+2)*(2)-1==11", true);
+        dueHolds("(2)*(1+2)*(2)-1==12", false);
+        dueHolds("0==1 or 0==1 or 1+(2)==4", false);
+        dueHolds("near 2 or near 3 and 1+1*(1+1*(1+1*(1+1*(1+1*(1+1*(1+1*1))))))==8", true);
+        dueHolds("near 2 or near 3 and 1+1*(1+1*(1+1*(1+1*(1+1*(1+1*(1+1*1))))))==7", false);
+        dueHolds("near 2 or near 3 and 7==0+1*(0+1*(0+1*(0+1*(0+1*(0+1*(6+1*1))))))", true);
+        dueHolds("near 2 or near 3 and 6==0+1*(0+1*(0+1*(0+1*(0+1*(0+1*(6+1*1))))))", false);
         dueHolds("10-3+2==9", true);
         dueHolds("0-1<0", true);
         dueHolds("2*(quality-district)*(1+1)==20", true);
@@ -672,6 +708,11 @@ public final class PromisesTest {
         due("lost", house.state(0, 6, 11, 3), 1);
         due("lost from then on", house.state(0, 25, 11, 3), 1);
         due("not lost ahead", house.state(0, 5, 11, 3), 0);
+        due("lost in it as well", house.fact(4, 0, 5, 0), 11);
+        dueDays(house, 12, "11111111000010");
+        due("another board is hung", house.fact(0, 1, 9, 3), 12);
+        due("and lost", house.fact(4, 1, 9, 0), 13);
+        due("lost is no proof", house.state(1, 9, 14, 1), 11);
         due("another is not lost", house.state(1, 6, 11, 3), 0);
         int[] others = {-1, 4, 5, 19, 34, Integer.MAX_VALUE, Integer.MIN_VALUE};
         for (int what : others) {
@@ -681,7 +722,7 @@ public final class PromisesTest {
         due("no such board", house.state(-1, 5, 0, 3), NONE);
         due("no such fortnight", house.state(0, 26, 0, 0), NONE);
         due("no such fortnight", house.state(0, -1, 0, 20), NONE);
-        due("no such n", house.state(0, 5, 12, 0), NONE);
+        due("no such n", house.state(0, 5, 15, 0), NONE);
         due("no such n", house.state(0, 5, -1, 0), NONE);
     }
 
