@@ -47,6 +47,17 @@ public final class LanguageTest {
         "int give(int,int)", "int mend(int,int)", "int given(int,int,int)", "int may(int,int)",
         "int bar(int,int)", "int lacks(int,int,int)", "int state(int,int,int,int)", "int refund(int,int,int)",
         "int ground(int,int,int)", "int reach(int,int,int)", "int count(int)"};
+    /** Rule 4's library; of Integer, Long and Math all that does not end in Exact. */
+    private static final Map<String, Set<String>> LIBRARY = Map.of(
+            "java.lang.Object", Set.of("<init>", "clone"),
+            "java.lang.String", Set.of("<init>", "length", "charAt", "isEmpty", "equals", "indexOf", "substring", "toCharArray"),
+            "java.lang.StringBuilder", Set.of("<init>", "append", "charAt", "setCharAt", "setLength", "deleteCharAt", "reverse",
+                    "length", "toString"),
+            "java.util.ArrayList", Set.of("<init>", "add", "get", "set", "remove", "size", "isEmpty", "clear"),
+            "java.util.List", Set.of("add", "get", "set", "remove", "size", "isEmpty", "clear", "of"),
+            "java.lang.System", Set.of("arraycopy"),
+            "java.util.Arrays", Set.of("copyOf", "copyOfRange", "fill"));
+    private static final Set<String> NUMBERS = Set.of("java.lang.Integer", "java.lang.Long", "java.lang.Math");
     private static int wrong = 0;
 
     public static void main(String[] args) throws Exception {
@@ -169,6 +180,18 @@ public final class LanguageTest {
             if (within != null && called instanceof ExecutableElement) {
                 calls.get(within).add(called);
             }
+            if (called != null) {
+                require(isFine(called), "rule 4: " + called.getEnclosingElement() + "." + called);
+            }
+        }
+
+        private static boolean isFine(Element called) {
+            String owner = called.getEnclosingElement().toString().replaceAll("<.*", "");
+            String name = called.getSimpleName().toString();
+            if (owner.equals("PasteHouse") || owner.startsWith("PasteHouse.")) {
+                return true;
+            }
+            return NUMBERS.contains(owner) ? !name.endsWith("Exact") : LIBRARY.getOrDefault(owner, Set.of()).contains(name);
         }
 
         @Override

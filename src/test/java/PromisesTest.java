@@ -1,9 +1,5 @@
 /** One method a promise: ordinary calls, the edges that the document names, wrong arguments. */
-public final class PromisesTest {
-    private static final int NONE = PasteHouse.NONE;
-    private static int wrong = 0;
-    private static int asked = 0;
-
+public final class PromisesTest extends Checks {
     public static void main(String[] args) {
         promise1NewObject();
         promise2Feed();
@@ -31,60 +27,7 @@ public final class PromisesTest {
         promise18Reach();
         promise19Count();
         anyArguments();
-        System.out.println("PromisesTest: " + asked + " answers asked, " + wrong + " wrong");
-        if (wrong != 0) {
-            System.exit(1);
-        }
-    }
-
-    private static void due(String call, long got, long want) {
-        asked++;
-        if (got != want) {
-            wrong++;
-            System.out.println(call + " answered " + got + ", due is " + want);
-        }
-    }
-
-    private static void due(String call, boolean got, boolean want) {
-        due(call, got ? 1 : 0, want ? 1 : 0);
-    }
-
-    /** Feeds a text: what fills up its last twenty bytes is taken back. */
-    private static void feed(PasteHouse house, String text) {
-        int fed = (text.length() + 19) / 20 * 20;
-        String padded = text + "?".repeat(fed - text.length());
-        for (int i = 0; i < fed; i += 20) {
-            house.feed(four(padded, i), four(padded, i + 4), four(padded, i + 8), four(padded, i + 12),
-                    four(padded, i + 16));
-        }
-        house.back(fed - text.length());
-    }
-
-    private static int four(String text, int at) {
-        return text.charAt(at) << 24 | text.charAt(at + 1) << 16 | text.charAt(at + 2) << 8 | text.charAt(at + 3);
-    }
-
-    private static PasteHouse houseWith(String text) {
-        PasteHouse house = new PasteHouse();
-        feed(house, text);
-        due("read() of " + text, house.read(), 0);
-        return house;
-    }
-
-    /** The fault of a text and its place. */
-    private static void dueFault(String text, int fault, int place) {
-        PasteHouse house = new PasteHouse();
-        feed(house, text);
-        String shown = text.length() > 120 ? text.substring(0, 60) + " .. " + text.substring(text.length() - 40) : text;
-        due("read() of " + shown, house.read(), fault);
-        due("place() behind read() of " + shown, house.place(), place);
-        due("count(2) behind read() of " + shown, house.count(2) > 0 && fault != 0, false);
-    }
-
-    private static void dueGiven(PasteHouse house, int fortnight, int... clauses) {
-        for (int board = 0; board < clauses.length; board++) {
-            due("given(" + board + ", " + fortnight + ", 0)", house.given(board, fortnight, 0), clauses[board]);
-        }
+        finish(PromisesTest.class);
     }
 
     private static void promise1NewObject() {
@@ -844,7 +787,7 @@ public final class PromisesTest {
         due("count(most)", house.count(Integer.MAX_VALUE), NONE);
     }
 
-    /** No call may throw, whatever its arguments are. */
+    /** No call may throw, whatever its arguments are, be it far behind the 512th (where its answer is free). */
     private static void anyArguments() {
         PasteHouse house = houseWith("campaign a from 0 until 26;want 2 in 0 worth 3;refund 5 if 0==0;end");
         house.board(0, 1, 5, 0, true);
@@ -874,6 +817,5 @@ public final class PromisesTest {
                 }
             }
         }
-        due("it still stands", house.count(2), 1);
     }
 }
