@@ -195,12 +195,20 @@ public final class GivingBoundariesTest extends Checks {
         due("state(0, 0, 2, 0)", house.state(0, 0, 2, 0), 13);
         due("state(1, 0, 2, 2)", house.state(1, 0, 2, 2), 14);
         due("ground(0, 0, 2)", house.ground(0, 0, 2), 5);
+        due("may(0, 0) behind ground(0, 0, 2)", house.may(0, 0), 1);
         due("ground(1, 0, 2)", house.ground(1, 0, 2), 6);
-        due("may(0, 0)", house.may(0, 0), 1);
-        due("may(1, 0)", house.may(1, 0), 1);
+        due("may(1, 0) behind ground(1, 0, 2)", house.may(1, 0), 1);
         due("bar(1, 0)", house.bar(1, 0), NONE);
-        due("give(0, 2)", house.give(0, 2), 2);
-        due("mend(0, 2)", house.mend(0, 2), 0);
+        house.fact(0, 1, 0, 13);
+        for (int board = 0; board < 2; board++) {
+            house.ground(board, 0, 3);
+            due("bar(0, 0) behind ground(" + board + ", 0, 3)", house.bar(0, 0), NONE);
+            house.ground(board, 0, 3);
+            due("give(0, 3) behind ground(" + board + ", 0, 3)", house.give(0, 3), 2);
+            house.ground(board, 0, 3);
+            due("mend(0, 3) behind ground(" + board + ", 0, 3)", house.mend(0, 3), 0);
+            dueGiven(house, 0, 0, 0);
+        }
         PasteHouse zero = houseWith("campaign a from 0 until 2;bar shown+unseen+late==0;end");
         addBoards(zero, 0);
         due("bar(0, 0) by what is nought", zero.bar(0, 0), 0);

@@ -19,6 +19,7 @@ public final class TextBoundariesTest extends Checks {
     public static void main(String[] args) {
         textLength();
         textEnd();
+        bytesWhereATextMayEnd();
         blanks();
         nameBytes();
         nameLength();
@@ -47,6 +48,7 @@ public final class TextBoundariesTest extends Checks {
         faultChangesNothing();
         soundTextTakesThePlace();
         textBehindText();
+        longTextBehindLongText();
         soundTextBehindABrokenOne();
         tapeIsEmptyThen();
         placeOfTheLatestRead();
@@ -90,6 +92,22 @@ public final class TextBoundariesTest extends Checks {
 
     private static boolean isDigit(int b) {
         return b >= 48 && b <= 57;
+    }
+
+    private static void bytesWhereATextMayEnd() {
+        sentence("1 SYNTAX: a TOKEN, or what is none, with which no text goes on");
+        for (int b = 0; b < 256; b++) {
+            String alone = String.valueOf((char) b);
+            String behind = HEAD + "end" + (char) b;
+            if (isBlank(b)) {
+                dueSound(alone);
+                dueSound(behind);
+            } else {
+                dueFault(alone, 1, 0);
+                // A letter makes another word of end.
+                dueFault(behind, 1, isLetter(b) ? HEAD.length() : HEAD.length() + 3);
+            }
+        }
     }
 
     private static void blanks() {
@@ -643,6 +661,17 @@ public final class TextBoundariesTest extends Checks {
         }
     }
 
+    /** Long conditions take their room anew each time. */
+    private static void longTextBehindLongText() {
+        sentence("else it is in place of the one ahead");
+        PasteHouse house = new PasteHouse();
+        addBoards(house, 0);
+        for (int i = 0; i < 8; i++) {
+            dueSound(house, HEAD + "bar 1" + "+1".repeat(280) + "==" + (281 + i % 2) + ";bar 2*3==6;end");
+            due("bar(0, 0) by text " + i, house.bar(0, 0), i % 2);
+        }
+    }
+
     /** A text that breaks off leaves nothing open for the next one. */
     private static void soundTextBehindABrokenOne() {
         sentence("A text with a FAULT changes nothing; the tape, which is empty then, is read");
@@ -651,7 +680,13 @@ public final class TextBoundariesTest extends Checks {
         for (String text : broken) {
             PasteHouse house = new PasteHouse();
             addBoards(house, 5);
-            for (int i = 0; i < 3; i++) {
+            for (int i = 0; i < 8; i++) {
+                feed(house, HEAD + text);
+                due("read() of " + text, house.read() > 0, true);
+            }
+            dueSound(house, HEAD + "bar 1+2*3==8 and near 1;bar 1+2*3==7;end");
+            due("bar(0, 0)", house.bar(0, 0), 1);
+            for (int i = 0; i < 8; i++) {
                 feed(house, HEAD + text);
                 due("read() of " + text, house.read() > 0, true);
                 dueSound(house, HEAD + "want 1 in 5 worth 8;bar ((((((1))))))+1<2 or near 1 and 2*(1+2)==6;end");
